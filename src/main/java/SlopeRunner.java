@@ -1,5 +1,3 @@
-import java.util.Arrays;
-
 /**
  * Runs small programs on exact fractions, lays each step on a tape, and tells from that tape how
  * the results move with the inputs.
@@ -111,14 +109,11 @@ public final class SlopeRunner {
     }
 
     public long input(int input, boolean above) {
-        return answer(inputs.value(input), above);
+        return answer(inputs.valueOf(input), above);
     }
 
     public int run() {
-        latest.begin(current);
-        for (int i = 0; i < current.inputs; i++) {
-            latest.putInput(i, inputs.value(i));
-        }
+        latest.begin(current, inputs.value);
         return machine.play(current, latest);
     }
 
@@ -178,7 +173,10 @@ public final class SlopeRunner {
         if (moved == Fractions.STUCK) {
             return NO;
         }
-        runTrial(input, moved);
+        // The other inputs are those of the latest run, perhaps no longer those that are put.
+        trial.begin(current, latest.value);
+        trial.putInput(input, moved);
+        machine.play(current, trial);
         if (trial.state != Tape.WHOLE) {
             return NO;
         }
@@ -215,15 +213,6 @@ public final class SlopeRunner {
 
     public int first(int n, int k) {
         return keepers.firstKept(n, k);
-    }
-
-    /** The other inputs are those of the latest run, which may no longer be those that are put. */
-    private void runTrial(int input, long moved) {
-        trial.begin(current);
-        for (int i = 0; i < latest.inputs; i++) {
-            trial.putInput(i, i == input ? moved : latest.value[i]);
-        }
-        machine.play(current, trial);
     }
 
     private static long answer(long fraction, boolean above) {
@@ -305,8 +294,9 @@ public final class SlopeRunner {
             return of(above(x) * below(y), below(x) * above(y));
         }
 
+        /** 0 less x; the bounds are the same on both sides of 0, so it can always be. */
         static long turned(long x) {
-            return minus(ZERO, x);
+            return x == STUCK ? STUCK : (-above(x) << LOW_BITS) | below(x);
         }
 
         static long withoutSign(long x) {
@@ -332,7 +322,6 @@ public final class SlopeRunner {
     /** What has been fed and is not yet taken as a program. */
     private static final class Text {
         static final int ROOM = 700;
-        static final int END = -1;
 
         private final byte[] bytes = new byte[ROOM];
         private int length;
@@ -361,7 +350,7 @@ public final class SlopeRunner {
         }
 
         int at(int place) {
-            return place >= 0 && place < length ? bytes[place] & 255 : END;
+            return place >= 0 && place < length ? bytes[place] & 255 : NONE;
         }
     }
 
@@ -458,6 +447,31 @@ public final class SlopeRunner {
             System.arraycopy(aside, 0, code, from + behind, ahead);
         }
 
+        /** Makes room for an input, row or var; its first slot in the machine. */
+        int addPlace(int what) {
+            switch (what) {
+                case Tokens.INPUT:
+                    inputs++;
+                    return inputs - 1;
+                case Tokens.ROW:
+                    rows++;
+                    return FIRST_ROW_SLOT + (rows - 1) * MOST_PLACES;
+                default:
+                    vars++;
+                    return FIRST_VAR_SLOT + vars - 1;
+            }
+        }
+
+        void sizeLatestRow(int size) {
+            if (rows >= 1 && rows <= MOST_ROWS) {
+                places[rows - 1] = size;
+            }
+        }
+
+        static int rowOf(int slot) {
+            return (slot - FIRST_ROW_SLOT) / MOST_PLACES;
+        }
+
         int whatAt(int at) {
             return at >= 0 && at < length ? code[at] >> ARGUMENT_BITS : NONE;
         }
@@ -471,35 +485,43 @@ public final class SlopeRunner {
         }
     }
 
-    /** The words of the language and the names that a text gives, each kept as one long. */
-    private static final class Words {
+    /** A text cut into words, numbers and signs. The kind of a sign is its byte. */
+    private static final class Tokens {
         static final int MOST_LETTERS = 6;
-        static final int INPUT = 0;
-        static final int ROW = 1;
-        static final int VAR = 2;
-        static final int SET = 3;
-        static final int GIVE = 4;
-        static final int IF = 5;
-        static final int WHILE = 6;
-        static final int ELSE = 7;
-        static final int AND = 8;
-        static final int OR = 9;
-        static final int NOT = 10;
-        static final int ABS = 11;
-        static final int MIN = 12;
-        static final int MAX = 13;
+        static final int MOST_DIGITS = 4;
+        static final int END = 256;
+        static final int GLUED = 257;
+        static final int NAME = 258;
+        static final int LONG_WORD = 259;
+        static final int NUMBER = 260;
+        static final int LONG_NUMBER = 261;
+        // The kinds of the language's own words go on from here, in the order of OWN_WORDS.
+        static final int INPUT = 262;
+        static final int ROW = 263;
+        static final int VAR = 264;
+        static final int SET = 265;
+        static final int GIVE = 266;
+        static final int IF = 267;
+        static final int WHILE = 268;
+        static final int ELSE = 269;
+        static final int AND = 270;
+        static final int OR = 271;
+        static final int NOT = 272;
+        static final int ABS = 273;
+        static final int MIN = 274;
+        static final int MAX = 275;
         private static final int OWN = 14;
         private static final String OWN_WORDS =
                 "input row var set give if while else and or not abs min max ";
-        private static final int MOST_NAMES =
-                Program.MOST_INPUTS + Program.MOST_ROWS + Program.MOST_VARS;
 
         private final long[] own = new long[OWN];
-        private final long[] name = new long[MOST_NAMES];
-        private final int[] slot = new int[MOST_NAMES];
-        private int names;
+        private final int[] kind = new int[Text.ROOM];
+        private final int[] start = new int[Text.ROOM];
+        private final long[] worth = new long[Text.ROOM];
+        private int count;
+        private int length;
 
-        Words() {
+        Tokens() {
             int word = 0;
             for (int i = 0; i < OWN_WORDS.length() && word < OWN; i++) {
                 if (OWN_WORDS.charAt(i) == ' ') {
@@ -510,36 +532,134 @@ public final class SlopeRunner {
             }
         }
 
-        /** Six letters fit into a long; a word's further letters push its first ones out. */
-        static long joined(long word, int letter) {
+        void cut(Text text) {
+            count = 0;
+            length = text.size();
+            int place = 0;
+            for (int i = 0; i < Text.ROOM && place < length; i++) {
+                place = take(text, place);
+            }
+        }
+
+        int kindAt(int i) {
+            return i >= 0 && i < count ? kind[i] : END;
+        }
+
+        int startAt(int i) {
+            return i >= 0 && i < count ? start[i] : length;
+        }
+
+        /** A number as such, or a name as joined letters. */
+        long worthAt(int i) {
+            return i >= 0 && i < count ? worth[i] : 0;
+        }
+
+        /** Takes what stands at a place; where to go on. */
+        private int take(Text text, int place) {
+            int sign = text.at(place);
+            if (isLetter(sign)) {
+                return takeWord(text, place);
+            }
+            if (isDigit(sign)) {
+                return takeNumber(text, place);
+            }
+            if (!isBlank(sign)) {
+                add(sign, place, 0);
+            }
+            return place + 1;
+        }
+
+        private int takeWord(Text text, int place) {
+            long word = 0;
+            int past = place;
+            for (int i = 0; i < Text.ROOM && isLetter(text.at(past)); i++) {
+                word = joined(word, text.at(past));
+                past++;
+            }
+            int what = past - place > MOST_LETTERS ? LONG_WORD : kindOfWord(word);
+            add(isGlued(text, place) ? GLUED : what, place, word);
+            return past;
+        }
+
+        private int takeNumber(Text text, int place) {
+            int number = 0;
+            int past = place;
+            for (int i = 0; i < Text.ROOM && isDigit(text.at(past)); i++) {
+                number = number * 10 + text.at(past) - '0';
+                past++;
+            }
+            int what = past - place > MOST_DIGITS ? LONG_NUMBER : NUMBER;
+            add(isGlued(text, place) ? GLUED : what, place, number);
+            return past;
+        }
+
+        private void add(int what, int place, long itsWorth) {
+            if (count < Text.ROOM) {
+                kind[count] = what;
+                start[count] = place;
+                worth[count] = itsWorth;
+                count++;
+            }
+        }
+
+        private int kindOfWord(long word) {
+            for (int i = 0; i < OWN; i++) {
+                if (own[i] == word) {
+                    return INPUT + i;
+                }
+            }
+            return NAME;
+        }
+
+        /** Six letters fit into a long, and longer words are told apart by their kind. */
+        private static long joined(long word, int letter) {
             return (word << 8) | letter;
         }
 
-        void forgetNames() {
-            names = 0;
+        /** Words and numbers side by side need a blank, even where one could tell them apart. */
+        private static boolean isGlued(Text text, int place) {
+            int before = text.at(place - 1);
+            return isLetter(before) || isDigit(before);
         }
 
-        void addName(long word, int itsSlot) {
-            if (names < MOST_NAMES) {
-                name[names] = word;
-                slot[names] = itsSlot;
-                names++;
+        private static boolean isBlank(int sign) {
+            return sign == 10 || sign == 32;
+        }
+
+        private static boolean isDigit(int sign) {
+            return sign >= '0' && sign <= '9';
+        }
+
+        private static boolean isLetter(int sign) {
+            return sign >= 'a' && sign <= 'z' || sign >= 'A' && sign <= 'Z';
+        }
+    }
+
+    /** The names that a text has given so far, each with its first slot in the machine. */
+    private static final class Names {
+        private static final int MOST =
+                Program.MOST_INPUTS + Program.MOST_ROWS + Program.MOST_VARS;
+
+        private final long[] name = new long[MOST];
+        private final int[] slot = new int[MOST];
+        private int count;
+
+        void clear() {
+            count = 0;
+        }
+
+        void add(long word, int itsSlot) {
+            if (count < MOST) {
+                name[count] = word;
+                slot[count] = itsSlot;
+                count++;
             }
         }
 
         int slotOf(long word) {
-            for (int i = 0; i < names; i++) {
+            for (int i = 0; i < count; i++) {
                 if (name[i] == word) {
                     return slot[i];
-                }
-            }
-            return NONE;
-        }
-
-        int ownNumber(long word) {
-            for (int i = 0; i < OWN; i++) {
-                if (own[i] == word) {
-                    return i;
                 }
             }
             return NONE;
@@ -548,8 +668,8 @@ public final class SlopeRunner {
 
     /**
      * Reads a text from the left on and stops at its first fault: a method that answers false has
-     * told it. What is open at once is limited, and that limits how deep the methods call one
-     * another.
+     * told it and stands at the token that has it. What is open at once is limited, and that
+     * limits how deep the methods call one another.
      */
     private static final class Parser {
         private static final int NO_WAY_ON = 1;
@@ -558,19 +678,16 @@ public final class SlopeRunner {
         private static final int TOO_DEEP = 4;
         private static final int TOO_MANY = 5;
         private static final int MOST_OPEN = 8;
-        private static final int MOST_DIGITS = 4;
 
-        private final Words words = new Words();
-        private Text text;
+        private final Tokens tokens = new Tokens();
+        private final Names names = new Names();
         private Program into;
-        private int place;
+        private int at;
+        private int kind;
         private int open;
         private int kindOfFault;
+        private int bytesIntoToken;
         private int placeOfFault = NONE;
-        private long word;
-        private int wordLength;
-        private int wordStart;
-        private int number;
 
         int faultKind() {
             return kindOfFault;
@@ -580,117 +697,136 @@ public final class SlopeRunner {
             return placeOfFault;
         }
 
-        boolean read(Text from, Program to) {
-            text = from;
+        boolean read(Text text, Program to) {
+            tokens.cut(text);
+            names.clear();
+            to.clear();
             into = to;
-            place = 0;
+            at = 0;
+            kind = tokens.kindAt(0);
             open = 0;
             kindOfFault = 0;
             placeOfFault = NONE;
-            words.forgetNames();
-            into.clear();
-            return statements(false);
+            if (statements(false)) {
+                return true;
+            }
+            placeOfFault = tokens.startAt(at) + bytesIntoToken;
+            return false;
         }
 
-        private boolean refuse(int kind, int at) {
-            kindOfFault = kind;
-            placeOfFault = at;
+        private boolean refuse(int fault) {
+            kindOfFault = fault;
+            bytesIntoToken = 0;
             return false;
+        }
+
+        private boolean refuseWithin(int fault, int bytes) {
+            kindOfFault = fault;
+            bytesIntoToken = bytes;
+            return false;
+        }
+
+        private void pass() {
+            at++;
+            kind = tokens.kindAt(at);
         }
 
         private boolean statements(boolean within) {
             for (int i = 0; i <= Program.MOST_STATEMENTS; i++) {
-                int sign = next();
-                if (sign == Text.END) {
-                    return within ? refuse(NO_WAY_ON, place) : true;
+                if (kind == Tokens.END) {
+                    return within ? refuse(NO_WAY_ON) : true;
                 }
-                if (within && sign == '}') {
+                if (within && kind == '}') {
                     return true;
                 }
                 if (into.statements >= Program.MOST_STATEMENTS) {
-                    return refuse(TOO_MANY, place);
+                    return refuse(TOO_MANY);
                 }
                 if (!statement(within)) {
                     return false;
                 }
             }
-            return refuse(TOO_MANY, place);
+            return refuse(TOO_MANY);
         }
 
         private boolean statement(boolean within) {
-            int own = ownWordHere();
-            if (own == NONE || own > Words.WHILE || within && own <= Words.VAR) {
-                return refuse(NO_WAY_ON, place);
-            }
-            if (own <= Words.VAR && isFull(own)) {
-                return refuse(TOO_MANY, place);
-            }
-            place += wordLength;
-            into.statements++;
-            switch (own) {
-                case Words.SET:
+            switch (kind) {
+                case Tokens.INPUT:
+                case Tokens.ROW:
+                case Tokens.VAR:
+                    return within ? refuse(NO_WAY_ON) : declaration();
+                case Tokens.SET:
                     return setting();
-                case Words.GIVE:
+                case Tokens.GIVE:
                     return giving();
-                case Words.IF:
+                case Tokens.IF:
                     return choice();
-                case Words.WHILE:
+                case Tokens.WHILE:
                     return loop();
                 default:
-                    return declaration(own);
+                    return refuse(NO_WAY_ON);
             }
         }
 
-        private boolean isFull(int own) {
-            switch (own) {
-                case Words.INPUT:
+        private void beginStatement() {
+            into.statements++;
+            pass();
+        }
+
+        private boolean declaration() {
+            int what = kind;
+            if (isFull(what)) {
+                return refuse(TOO_MANY);
+            }
+            beginStatement();
+            if (!newName(what)) {
+                return false;
+            }
+            if (what == Tokens.ROW && (!expect('[') || !placesOfRow() || !expect(']'))) {
+                return false;
+            }
+            return expect(';');
+        }
+
+        private boolean isFull(int what) {
+            switch (what) {
+                case Tokens.INPUT:
                     return into.inputs >= Program.MOST_INPUTS;
-                case Words.ROW:
+                case Tokens.ROW:
                     return into.rows >= Program.MOST_ROWS;
                 default:
                     return into.vars >= Program.MOST_VARS;
             }
         }
 
-        private boolean declaration(int own) {
-            if (!name()) {
+        private boolean newName(int what) {
+            if (!isName()) {
                 return false;
             }
-            if (words.slotOf(word) != NONE) {
-                return refuse(WRONG_NAME, wordStart);
+            long word = tokens.worthAt(at);
+            if (names.slotOf(word) != NONE) {
+                return refuse(WRONG_NAME);
             }
-            if (own == Words.INPUT) {
-                words.addName(word, into.inputs);
-                into.inputs++;
-            } else if (own == Words.VAR) {
-                words.addName(word, Program.FIRST_VAR_SLOT + into.vars);
-                into.vars++;
-            } else {
-                words.addName(word, Program.FIRST_ROW_SLOT + into.rows * Program.MOST_PLACES);
-                if (!expect('[') || !placesOfRow() || !expect(']')) {
-                    return false;
-                }
-            }
-            return expect(';');
+            names.add(word, into.addPlace(what));
+            pass();
+            return true;
         }
 
         private boolean placesOfRow() {
-            next();
-            int start = place;
-            if (!digits()) {
+            if (!isNumber()) {
                 return false;
             }
-            if (number < 1 || number > Program.MOST_PLACES) {
-                return refuse(NO_SUCH_NUMBER, start);
+            int places = (int) tokens.worthAt(at);
+            if (places < 1 || places > Program.MOST_PLACES) {
+                return refuse(NO_SUCH_NUMBER);
             }
-            if (into.rows < Program.MOST_ROWS) {
-                into.places[into.rows] = number;
-                into.rows++;
-            }
+            into.sizeLatestRow(places);
+            pass();
             return true;
         }
 
         private boolean setting() {
+            beginStatement();
             int from = into.length;
             int slot = knownName();
             if (slot == NONE) {
@@ -707,7 +843,7 @@ public final class SlopeRunner {
             // The sum is worked ahead of the place's own sum, though it stands behind it.
             into.swap(from, middle);
             if (inRow) {
-                into.emit(Program.STORE_ROW, rowOf(slot));
+                into.emit(Program.STORE_ROW, Program.rowOf(slot));
             } else {
                 into.emit(Program.STORE, slot);
             }
@@ -715,6 +851,7 @@ public final class SlopeRunner {
         }
 
         private boolean giving() {
+            beginStatement();
             if (!sum() || !expect(';')) {
                 return false;
             }
@@ -723,6 +860,7 @@ public final class SlopeRunner {
         }
 
         private boolean choice() {
+            beginStatement();
             if (!test()) {
                 return false;
             }
@@ -731,11 +869,11 @@ public final class SlopeRunner {
             if (!block()) {
                 return false;
             }
-            if (ownWordHere() != Words.ELSE) {
+            if (kind != Tokens.ELSE) {
                 into.aimHere(otherwise);
                 return true;
             }
-            place += wordLength;
+            pass();
             int past = into.length;
             into.emit(Program.JUMP, 0);
             into.aimHere(otherwise);
@@ -747,6 +885,7 @@ public final class SlopeRunner {
         }
 
         private boolean loop() {
+            beginStatement();
             int top = into.length;
             if (!test()) {
                 return false;
@@ -769,8 +908,8 @@ public final class SlopeRunner {
             if (!both()) {
                 return false;
             }
-            for (int i = 0; i < Text.ROOM && ownWordHere() == Words.OR; i++) {
-                place += wordLength;
+            for (int i = 0; i < Text.ROOM && kind == Tokens.OR; i++) {
+                pass();
                 if (!both()) {
                     return false;
                 }
@@ -783,8 +922,8 @@ public final class SlopeRunner {
             if (!fact()) {
                 return false;
             }
-            for (int i = 0; i < Text.ROOM && ownWordHere() == Words.AND; i++) {
-                place += wordLength;
+            for (int i = 0; i < Text.ROOM && kind == Tokens.AND; i++) {
+                pass();
                 if (!fact()) {
                     return false;
                 }
@@ -794,50 +933,56 @@ public final class SlopeRunner {
         }
 
         private boolean fact() {
-            if (next() == '[') {
+            if (kind == '[') {
                 return openWith('[') && test() && closeWith(']');
             }
-            if (ownWordHere() != Words.NOT) {
-                return comparison();
+            if (kind == Tokens.NOT) {
+                if (!openWith(Tokens.NOT) || !fact()) {
+                    return false;
+                }
+                open--;
+                into.emit(Program.NOT, 0);
+                return true;
             }
-            if (!enter(wordLength) || !fact()) {
+            if (!sum()) {
                 return false;
             }
-            open--;
-            into.emit(Program.NOT, 0);
+            int what = kindOfSign();
+            if (what == NONE) {
+                return refuse(NO_WAY_ON);
+            }
+            pass();
+            if (!sum()) {
+                return false;
+            }
+            into.emit(what, 0);
             return true;
         }
 
-        private boolean comparison() {
-            if (!sum()) {
-                return false;
+        private int kindOfSign() {
+            switch (kind) {
+                case '<':
+                    return Program.LESS;
+                case '>':
+                    return Program.MORE;
+                case '=':
+                    return Program.LIKE;
+                default:
+                    return NONE;
             }
-            int sign = next();
-            if (sign != '<' && sign != '>' && sign != '=') {
-                return refuse(NO_WAY_ON, place);
-            }
-            place++;
-            if (!sum()) {
-                return false;
-            }
-            into.emit(sign == '<' ? Program.LESS : sign == '>' ? Program.MORE : Program.LIKE, 0);
-            return true;
         }
 
         private boolean sum() {
             if (!product()) {
                 return false;
             }
-            for (int i = 0; i < Text.ROOM; i++) {
-                int sign = next();
-                if (sign != '+' && sign != '-') {
-                    break;
-                }
-                place++;
+            for (int i = 0; i < Text.ROOM && (kind == '+' || kind == '-'); i++) {
+                int what = kind == '+' ? Program.PLUS : Program.MINUS;
+                pass();
                 if (!product()) {
                     return false;
                 }
-                into.emit(sign == '+' ? Program.PLUS : Program.MINUS, 0);
+                into.emit(what, 0);
             }
             return true;
         }
@@ -846,46 +991,46 @@ public final class SlopeRunner {
             if (!part()) {
                 return false;
             }
-            for (int i = 0; i < Text.ROOM; i++) {
-                int sign = next();
-                if (sign != '*' && sign != '/') {
-                    break;
-                }
-                place++;
+            for (int i = 0; i < Text.ROOM && (kind == '*' || kind == '/'); i++) {
+                int what = kind == '*' ? Program.TIMES : Program.OVER;
+                pass();
                 if (!part()) {
                     return false;
                 }
-                into.emit(sign == '*' ? Program.TIMES : Program.OVER, 0);
+                into.emit(what, 0);
             }
             return true;
         }
 
         private boolean part() {
-            int sign = next();
-            if (sign == '(') {
-                return openWith('(') && sum() && closeWith(')');
-            }
-            if (isDigit(sign)) {
-                if (!digits()) {
-                    return false;
-                }
-                into.emitNumber(number);
-                return true;
-            }
-            switch (ownWordHere()) {
-                case Words.ABS:
+            switch (kind) {
+                case '(':
+                    return openWith('(') && sum() && closeWith(')');
+                case Tokens.NUMBER:
+                case Tokens.LONG_NUMBER:
+                    return written();
+                case Tokens.ABS:
                     return ofOne(Program.ABS);
-                case Words.MIN:
+                case Tokens.MIN:
                     return ofTwo(Program.MIN);
-                case Words.MAX:
+                case Tokens.MAX:
                     return ofTwo(Program.MAX);
                 default:
                     return reading();
             }
         }
 
+        private boolean written() {
+            if (!isNumber()) {
+                return false;
+            }
+            into.emitNumber((int) tokens.worthAt(at));
+            pass();
+            return true;
+        }
+
         private boolean ofOne(int what) {
-            place += wordLength;
+            pass();
             if (!openWith('(') || !sum() || !closeWith(')')) {
                 return false;
             }
@@ -894,7 +1039,7 @@ public final class SlopeRunner {
         }
 
         private boolean ofTwo(int what) {
-            place += wordLength;
+            pass();
             if (!openWith('(') || !sum() || !expect(',') || !sum() || !closeWith(')')) {
                 return false;
             }
@@ -914,7 +1059,7 @@ public final class SlopeRunner {
             if (!index()) {
                 return false;
             }
-            into.emit(Program.LOAD_ROW, rowOf(slot));
+            into.emit(Program.LOAD_ROW, Program.rowOf(slot));
             return true;
         }
 
@@ -922,113 +1067,60 @@ public final class SlopeRunner {
             return openWith('[') && sum() && closeWith(']');
         }
 
-        private static int rowOf(int slot) {
-            return (slot - Program.FIRST_ROW_SLOT) / Program.MOST_PLACES;
-        }
-
         private int knownName() {
-            if (!name()) {
+            if (!isName()) {
                 return NONE;
             }
-            int slot = words.slotOf(word);
+            int slot = names.slotOf(tokens.worthAt(at));
             if (slot == NONE) {
-                refuse(WRONG_NAME, wordStart);
+                refuse(WRONG_NAME);
+            } else {
+                pass();
             }
             return slot;
         }
 
-        private boolean name() {
-            int own = ownWordHere();
-            if (own != NONE || wordLength == 0) {
-                return refuse(NO_WAY_ON, place);
+        private boolean isName() {
+            if (kind == Tokens.LONG_WORD) {
+                return refuseWithin(NO_WAY_ON, Tokens.MOST_LETTERS);
             }
-            if (wordLength > Words.MOST_LETTERS) {
-                return refuse(NO_WAY_ON, place + Words.MOST_LETTERS);
-            }
-            wordStart = place;
-            place += wordLength;
-            return true;
+            return kind == Tokens.NAME || refuse(NO_WAY_ON);
         }
 
-        /** Looks at the word that is next, without passing it; it has no letters if none is. */
-        private int ownWordHere() {
-            word = 0;
-            wordLength = 0;
-            if (!isLetter(next()) || isGlued()) {
-                return NONE;
+        private boolean isNumber() {
+            if (kind == Tokens.LONG_NUMBER) {
+                return refuseWithin(NO_WAY_ON, Tokens.MOST_DIGITS);
             }
-            for (int i = 0; i < Text.ROOM && isLetter(text.at(place + i)); i++) {
-                word = Words.joined(word, text.at(place + i));
-                wordLength++;
-            }
-            return wordLength > Words.MOST_LETTERS ? NONE : words.ownNumber(word);
+            return kind == Tokens.NUMBER || refuse(NO_WAY_ON);
         }
 
-        private boolean digits() {
-            if (!isDigit(next()) || isGlued()) {
-                return refuse(NO_WAY_ON, place);
+        private boolean openWith(int what) {
+            if (kind != what) {
+                return refuse(NO_WAY_ON);
             }
-            number = 0;
-            for (int i = 0; i < MOST_DIGITS && isDigit(text.at(place)); i++) {
-                number = number * 10 + text.at(place) - '0';
-                place++;
-            }
-            return isDigit(text.at(place)) ? refuse(NO_WAY_ON, place) : true;
-        }
-
-        private boolean openWith(int sign) {
-            if (next() != sign) {
-                return refuse(NO_WAY_ON, place);
-            }
-            return enter(1);
-        }
-
-        private boolean enter(int bytes) {
             if (open >= MOST_OPEN) {
-                return refuse(TOO_DEEP, place);
+                return refuse(TOO_DEEP);
             }
             open++;
-            place += bytes;
+            pass();
             return true;
         }
 
-        private boolean closeWith(int sign) {
+        private boolean closeWith(int what) {
+            if (kind != what) {
+                return refuse(NO_WAY_ON);
+            }
             open--;
-            return expect(sign);
-        }
-
-        private boolean expect(int sign) {
-            if (next() != sign) {
-                return refuse(NO_WAY_ON, place);
-            }
-            place++;
+            pass();
             return true;
         }
 
-        /** Passes blanks; the byte that stands there then, or the text's end. */
-        private int next() {
-            for (int i = 0; i < Text.ROOM && isBlank(text.at(place)); i++) {
-                place++;
+        private boolean expect(int what) {
+            if (kind != what) {
+                return refuse(NO_WAY_ON);
             }
-            return text.at(place);
-        }
-
-        /** Words and numbers side by side need a blank, even where one could tell them apart. */
-        private boolean isGlued() {
-            int before = text.at(place - 1);
-            return isLetter(before) || isDigit(before);
-        }
-
-        private static boolean isBlank(int sign) {
-            return sign == 10 || sign == 32;
-        }
-
-        private static boolean isDigit(int sign) {
-            return sign >= '0' && sign <= '9';
-        }
-
-        private static boolean isLetter(int sign) {
-            return sign >= 'a' && sign <= 'z' || sign >= 'A' && sign <= 'Z';
+            pass();
+            return true;
         }
     }
 
@@ -1036,7 +1128,7 @@ public final class SlopeRunner {
     private static final class Inputs {
         private static final int MOST_UNDONE = 40;
 
-        private final long[] value = new long[Program.MOST_INPUTS];
+        final long[] value = new long[Program.MOST_INPUTS];
         private final int[] changed = new int[MOST_UNDONE];
         private final long[] before = new long[MOST_UNDONE];
         private final long[] after = new long[MOST_UNDONE];
@@ -1048,14 +1140,16 @@ public final class SlopeRunner {
             count = inputs;
             done = 0;
             known = 0;
-            Arrays.fill(value, Fractions.ZERO);
+            for (int i = 0; i < value.length; i++) {
+                value[i] = Fractions.ZERO;
+            }
         }
 
         boolean holds(int input) {
             return input >= 0 && input < count;
         }
 
-        long value(int input) {
+        long valueOf(int input) {
             return holds(input) ? value[input] : Fractions.STUCK;
         }
 
@@ -1141,15 +1235,19 @@ public final class SlopeRunner {
             nearest = Fractions.STUCK;
         }
 
-        void begin(Program program) {
+        /** The inputs come from the first of the values. */
+        void begin(Program program, long[] values) {
             forget();
             state = GOING;
             inputs = program.inputs;
             firstStep = inputs + 1 + program.numbers;
             size = firstStep;
-            Arrays.fill(value, 0, inputs + 1, Fractions.ZERO);
+            for (int i = 0; i < inputs && i < values.length; i++) {
+                value[i] = values[i];
+            }
+            value[zeroAt()] = Fractions.ZERO;
             for (int i = 0; i < program.numbers; i++) {
-                value[inputs + 1 + i] = Fractions.of(program.numberAt(i), 1);
+                value[numberAt(i)] = Fractions.of(program.numberAt(i), 1);
             }
         }
 
@@ -1236,29 +1334,24 @@ public final class SlopeRunner {
             tape = onto;
             top = 0;
             at = 0;
-            Arrays.fill(held, tape.zeroAt());
-            for (int i = 0; i < program.inputs; i++) {
-                held[i] = i;
+            for (int i = 0; i < held.length; i++) {
+                held[i] = i < program.inputs ? i : tape.zeroAt();
             }
             for (int i = 0; i < MOST_MOVES && tape.state == Tape.GOING; i++) {
-                move();
+                int what = program.whatAt(at);
+                int argument = program.argumentAt(at);
+                at++;
+                if (what == NONE) {
+                    tape.state = Tape.WHOLE;
+                } else if (what <= Program.GIVE) {
+                    moveData(what, argument);
+                } else if (what <= Program.LIKE) {
+                    step(what);
+                } else {
+                    decide(what, argument);
+                }
             }
             return tape.state;
-        }
-
-        private void move() {
-            int what = program.whatAt(at);
-            int argument = program.argumentAt(at);
-            at++;
-            if (what == NONE) {
-                tape.state = Tape.WHOLE;
-            } else if (what <= Program.GIVE) {
-                moveData(what, argument);
-            } else if (what <= Program.LIKE) {
-                step(what);
-            } else {
-                decide(what, argument);
-            }
         }
 
         private void moveData(int what, int argument) {
@@ -1468,14 +1561,15 @@ public final class SlopeRunner {
         long slopeBackward(Tape tape, int r, int input) {
             int last = tape.given[r];
             long[] share = fromOne;
-            Arrays.fill(share, Fractions.ZERO);
-            share[last] = Fractions.ONE;
+            for (int k = 0; k <= last; k++) {
+                share[k] = k == last ? Fractions.ONE : Fractions.ZERO;
+            }
             for (int k = last; k >= tape.firstStep; k--) {
                 if (share[k] != Fractions.ZERO && !handBack(tape, k, share)) {
                     return Fractions.STUCK;
                 }
             }
-            return share[input];
+            return input <= last ? share[input] : Fractions.ZERO;
         }
 
         int moverBits(Tape tape, int r) {
@@ -1628,7 +1722,9 @@ public final class SlopeRunner {
 
         void begin(int count) {
             inputs = count >= 0 && count <= Program.MOST_INPUTS ? count : 0;
-            Arrays.fill(apart, 0);
+            for (int i = 0; i < apart.length; i++) {
+                apart[i] = 0;
+            }
         }
 
         void keepApart(int movers) {
