@@ -225,7 +225,8 @@ public final class SlopeRunner {
     /**
      * A fraction is one long: what stands above in the high bits, what stands below in the low
      * thirty. It is always in lowest terms, so like fractions are like longs, and no call has to
-     * make an object. What can't be a number is STUCK, and so is all that is worked out from it.
+     * make an object. What can't be a number is STUCK, 0 with 0 below: all that is worked out from
+     * it has 0 below, too, and so is STUCK without a test of its own.
      */
     private static final class Fractions {
         static final int MOST = 1000000000;
@@ -267,36 +268,24 @@ public final class SlopeRunner {
         }
 
         static long plus(long x, long y) {
-            if (x == STUCK || y == STUCK) {
-                return STUCK;
-            }
             return of(above(x) * below(y) + above(y) * below(x), below(x) * below(y));
         }
 
         static long minus(long x, long y) {
-            if (x == STUCK || y == STUCK) {
-                return STUCK;
-            }
             return of(above(x) * below(y) - above(y) * below(x), below(x) * below(y));
         }
 
         static long times(long x, long y) {
-            if (x == STUCK || y == STUCK) {
-                return STUCK;
-            }
             return of(above(x) * above(y), below(x) * below(y));
         }
 
         static long over(long x, long y) {
-            if (x == STUCK || y == STUCK) {
-                return STUCK;
-            }
             return of(above(x) * below(y), below(x) * above(y));
         }
 
         /** 0 less x; the bounds are the same on both sides of 0, so it can always be. */
         static long turned(long x) {
-            return x == STUCK ? STUCK : (-above(x) << LOW_BITS) | below(x);
+            return (-above(x) << LOW_BITS) | below(x);
         }
 
         static long withoutSign(long x) {
@@ -1263,7 +1252,7 @@ public final class SlopeRunner {
         }
 
         int numberAt(int k) {
-            return Math.min(inputs + 1 + k, size - 1);
+            return inputs + 1 + k;
         }
 
         boolean hasResult(int r) {

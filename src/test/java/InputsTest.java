@@ -10,6 +10,7 @@ public final class InputsTest {
         refusing();
         undoing();
         fortyBehind();
+        fortyOfTwo();
         Check.finish();
     }
 
@@ -111,5 +112,20 @@ public final class InputsTest {
         }
         Check.due("undone", undone, 31);
         Check.dueInput(x, 0, 3, 1);
+    }
+
+    private static void fortyOfTwo() {
+        SlopeRunner x = Check.make("input a; input b;");
+        for (int i = 1; i <= 45; i++) {
+            x.put(i % 3 == 0 ? 1 : 0, i, 1);
+        }
+        for (int i = 45; i > 5; i--) {
+            Check.dueInput(x, 0, i % 3 == 0 ? i - 1 : i, 1);
+            Check.dueInput(x, 1, i - i % 3, 1);
+            Check.due("undo", x.undo(), true);
+        }
+        Check.due("undo", x.undo(), false);
+        Check.dueInput(x, 0, 5, 1);
+        Check.dueInput(x, 1, 3, 1);
     }
 }

@@ -18,6 +18,7 @@ public final class KeepersTest {
             Check.due("first " + pair[0] + " " + pair[1], x.first(pair[0], pair[1]), SlopeRunner.NONE);
         }
         Check.due("first 1 5", x.first(1, 5), SlopeRunner.NONE);
+        Check.due("first 12 3 of a new one", x.first(12, 3), 4);
         Check.due("first 5 1", x.first(5, 1), SlopeRunner.NONE);
         Check.due("first 1 1", x.first(1, 1), SlopeRunner.NONE);
         Check.due("again 1 10", x.again(1, 10), 0);

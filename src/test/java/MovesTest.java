@@ -122,6 +122,12 @@ public final class MovesTest {
         Check.due("by the latest groups()", x.group(2), 1);
         Check.due("groups", x.groups(), 1);
         Check.due("by the latest groups()", x.group(2), 0);
+        x.put(0, 0, 1);
+        x.run();
+        Check.due("groups", x.groups(), 2);
+        Check.take(x, "input a; input b; give a; give b;");
+        x.run();
+        Check.due("groups of another program", x.groups(), 1);
         Check.take(x, "input a; input b; give a + b;");
         Check.due("none behind program", x.group(0), SlopeRunner.NONE);
         Check.due("none behind program", x.groups(), SlopeRunner.NONE);

@@ -5,6 +5,7 @@ import java.util.List;
 public final class OracleTest {
     private static final int[] BIG = {1000000000, 999999999, 31623, 31622, 65536, 99999, 500000000, 999983};
     private static long seed = 20261118L;
+    private static SlopeRunner used = new SlopeRunner();
 
     private OracleTest() {
     }
@@ -36,7 +37,10 @@ public final class OracleTest {
             Check.dueFault(text, e.kind, e.place);
             return;
         }
-        SlopeRunner x = Check.make(text);
+        if (pick(8) == 0) {
+            used = new SlopeRunner();
+        }
+        SlopeRunner x = Check.take(used, text);
         Check.due("statements", x.has(3), parsed.statements);
         Check.due("numbers", x.has(4), parsed.numbers.size());
         List<Oracle.Frac> inputs = new ArrayList<>();

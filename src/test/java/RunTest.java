@@ -11,6 +11,7 @@ public final class RunTest {
         sums();
         places();
         rows();
+        allPlaces();
         tests();
         stuck();
         bounds();
@@ -95,6 +96,28 @@ public final class RunTest {
         Check.dueResult(w, 0, 1, 1);
         Check.dueResult(w, 1, 2, 1);
         ran("row a [ 15 ]; give a [ 15 ];", STUCK);
+    }
+
+    /** As many inputs, vars and rows as there can be, each with places of its own. */
+    private static void allPlaces() {
+        SlopeRunner x = Check.make("input a;input b;input c;input d;input e;input f;input g;input h;"
+                + "var A;var B;var C;var D;var E;var F;var G;var H;var I;var J;var K;var L;"
+                + "set A=1;set B=2;set C=3;set D=4;set E=5;set F=6;set G=7;set H=8;set I=9;set J=10;set K=11;set L=12;"
+                + "give A;give B-C;give D-E;give F-G;give H-I;give J-K;give L;"
+                + "give a-b;give c-d;give e-f;give g;give h;");
+        int[] held = {0, 9, 7, 3, 20, 4, 6, 11};
+        for (int i = 0; i < 8; i++) {
+            x.put(i, held[i], 1);
+        }
+        Check.due("run", x.run(), WHOLE);
+        int[] due = {1, -1, -1, -1, -1, -1, 12, -9, 4, 16, 6, 11};
+        for (int r = 0; r < due.length; r++) {
+            Check.dueResult(x, r, due[r], 1);
+        }
+        SlopeRunner y = ran("row p[16];row q[16];row r[16];row s[16];var k;var n;"
+                + "while k<16{set p[k]=k;set q[k]=k+20;set r[k]=k+40;set s[k]=k+60;set k=k+1;}set k=0;"
+                + "while k<16{if p[k]=k and q[k]=k+20 and r[k]=k+40 and s[k]=k+60{set n=n+1;}set k=k+1;}give n;", WHOLE);
+        Check.dueResult(y, 0, 16, 1);
     }
 
     private static void tests() {

@@ -16,6 +16,7 @@ public final class TextTest {
         depthFaults();
         countFaults();
         goodPrograms();
+        oneBehindAnother();
         counting();
         Check.finish();
     }
@@ -61,6 +62,11 @@ public final class TextTest {
         Check.due("end(7)", x.end(7), true);
         Check.due("end(8)", x.end(8), false);
         Check.due("program of the first seven", x.program(), 1);
+        // What was cut off is not there, though it would make a word whole.
+        Check.feed(x, "while 1 = 1 { }");
+        x.end(4);
+        Check.due("program of whil", x.program(), SlopeRunner.NONE);
+        Check.due("fault's place of whil", x.fault(1), 0);
     }
 
     private static void taking() {
@@ -222,6 +228,7 @@ public final class TextTest {
         Check.dueFault("input a; give a + min(a, ab);", 3, 25);
         Check.dueFault("if a = 1 { input b; }", 3, 3);
         Check.dueFault("input ab; give a;", 3, 15);
+        Check.dueGood("input z; var Z; var az; var AZ; give z + Z + az + AZ;", 5);
         Check.dueGood("input a; var A; row aa [ 1 ]; var aaaaaa; input aaaaab;", 5);
     }
 
@@ -280,6 +287,30 @@ public final class TextTest {
         Check.dueGood("input\na\n;give(a)*abs(a)/min(a,1)-max(1,a);", 2);
         Check.dueGood("input a;if not[a=1 or a<2 and not a>3]{set a=a;}else{give a;}", 4);
         Check.dueGood("input inputs; input se; var andy; give inputs + se - andy;", 4);
+    }
+
+    /** Nothing of a program, or of a fault, is left when the next one is read. */
+    private static void oneBehindAnother() {
+        SlopeRunner x = new SlopeRunner();
+        String[] wrong = {"give (((((((", "if 1 = 1 { if not [ 2 = (", "give abcdefgh;", "row r [ 3 ]; give 12345;", "input a; input a;"};
+        for (String text : wrong) {
+            Check.take(x, "input a; row r [ 2 ]; var v; give a + 1; give ((((((((2))))))));");
+            Check.due("inputs", x.has(0), 1);
+            Check.due("rows", x.has(1), 1);
+            Check.due("vars", x.has(2), 1);
+            Check.due("statements", x.has(3), 5);
+            Check.due("numbers", x.has(4), 2);
+            x.put(0, 4, 1);
+            x.run();
+            Check.dueResult(x, 0, 5, 1);
+            Check.dueResult(x, 1, 2, 1);
+            Check.due("steps", x.ran(0), 1);
+            Check.feed(x, text);
+            Check.due("program of \"" + text + "\"", x.program(), SlopeRunner.NONE);
+            Check.feed(x, "give 1; ?");
+            Check.due("program of rubbish", x.program(), SlopeRunner.NONE);
+            Check.due("its place", x.fault(1), 8);
+        }
     }
 
     private static void counting() {
