@@ -350,6 +350,7 @@ public final class SlopeRunner {
         static final int MOST_VARS = 12;
         static final int MOST_STATEMENTS = 80;
         static final int MOST_PLACES = 16;
+        static final int MOST_NAMES = MOST_INPUTS + MOST_ROWS + MOST_VARS;
         static final int FIRST_VAR_SLOT = MOST_INPUTS;
         static final int FIRST_ROW_SLOT = FIRST_VAR_SLOT + MOST_VARS;
         static final int SLOTS = FIRST_ROW_SLOT + MOST_ROWS * MOST_PLACES;
@@ -389,6 +390,9 @@ public final class SlopeRunner {
         int numbers;
         int length;
         final int[] places = new int[MOST_ROWS];
+        private int names;
+        private final long[] name = new long[MOST_NAMES];
+        private final int[] slot = new int[MOST_NAMES];
         private final int[] number = new int[NUMBER_ROOM];
         private final int[] code = new int[CODE_ROOM];
         private final int[] aside = new int[CODE_ROOM];
@@ -399,6 +403,7 @@ public final class SlopeRunner {
             vars = 0;
             statements = 0;
             numbers = 0;
+            names = 0;
             length = 0;
         }
 
@@ -436,8 +441,25 @@ public final class SlopeRunner {
             System.arraycopy(aside, 0, code, from + behind, ahead);
         }
 
-        /** Makes room for an input, row or var; its first slot in the machine. */
-        int addPlace(int what) {
+        /** A name's slot is the first that it has in the machine. */
+        void addName(int what, long word) {
+            if (names < MOST_NAMES) {
+                name[names] = word;
+                slot[names] = newSlot(what);
+                names++;
+            }
+        }
+
+        int slotOf(long word) {
+            for (int i = 0; i < names; i++) {
+                if (name[i] == word) {
+                    return slot[i];
+                }
+            }
+            return NONE;
+        }
+
+        private int newSlot(int what) {
             switch (what) {
                 case Tokens.INPUT:
                     inputs++;
@@ -624,37 +646,6 @@ public final class SlopeRunner {
         }
     }
 
-    /** The names that a text has given so far, each with its first slot in the machine. */
-    private static final class Names {
-        private static final int MOST =
-                Program.MOST_INPUTS + Program.MOST_ROWS + Program.MOST_VARS;
-
-        private final long[] name = new long[MOST];
-        private final int[] slot = new int[MOST];
-        private int count;
-
-        void clear() {
-            count = 0;
-        }
-
-        void add(long word, int itsSlot) {
-            if (count < MOST) {
-                name[count] = word;
-                slot[count] = itsSlot;
-                count++;
-            }
-        }
-
-        int slotOf(long word) {
-            for (int i = 0; i < count; i++) {
-                if (name[i] == word) {
-                    return slot[i];
-                }
-            }
-            return NONE;
-        }
-    }
-
     /**
      * Reads a text from the left on and stops at its first fault: a method that answers false has
      * told it and stands at the token that has it. What is open at once is limited, and that
@@ -669,7 +660,6 @@ public final class SlopeRunner {
         private static final int MOST_OPEN = 8;
 
         private final Tokens tokens = new Tokens();
-        private final Names names = new Names();
         private Program into;
         private int at;
         private int kind;
@@ -688,7 +678,6 @@ public final class SlopeRunner {
 
         boolean read(Text text, Program to) {
             tokens.cut(text);
-            names.clear();
             to.clear();
             into = to;
             at = 0;
@@ -793,10 +782,10 @@ public final class SlopeRunner {
                 return false;
             }
             long word = tokens.worthAt(at);
-            if (names.slotOf(word) != NONE) {
+            if (into.slotOf(word) != NONE) {
                 return refuse(WRONG_NAME);
             }
-            names.add(word, into.addPlace(what));
+            into.addName(what, word);
             pass();
             return true;
         }
@@ -1060,7 +1049,7 @@ public final class SlopeRunner {
             if (!isName()) {
                 return NONE;
             }
-            int slot = names.slotOf(tokens.worthAt(at));
+            int slot = into.slotOf(tokens.worthAt(at));
             if (slot == NONE) {
                 refuse(WRONG_NAME);
             } else {

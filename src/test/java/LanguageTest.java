@@ -88,7 +88,7 @@ public final class LanguageTest {
 
     private static void nestedClasses() {
         Class<?>[] nested = SlopeRunner.class.getDeclaredClasses();
-        Check.due("there are at most twelve classes", nested.length <= 12, true);
+        Check.due("there are at most twelve classes", nested.length + 1 <= 12, true);
         for (Class<?> c : nested) {
             Check.due(c + " is static", Modifier.isStatic(c.getModifiers()), true);
             Check.due(c + " is not public", Modifier.isPublic(c.getModifiers()), false);
