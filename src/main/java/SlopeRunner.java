@@ -1530,7 +1530,7 @@ public final class SlopeRunner {
                 if (k < tape.firstStep) {
                     fromBoth[k] = Fractions.ZERO;
                 } else if (hangs[k]) {
-                    fromBoth[k] = twiceAt(tape, k);
+                    fromBoth[k] = hasBothSlopes(k) ? twiceAt(tape, k) : Fractions.STUCK;
                 }
             }
             return fromBoth[last];
@@ -1574,6 +1574,11 @@ public final class SlopeRunner {
                 }
             }
             return count[last];
+        }
+
+        /** Each step is worked with its two slopes, though a sum needs neither of them for itself. */
+        private boolean hasBothSlopes(int k) {
+            return fromOne[k] != Fractions.STUCK && fromOther[k] != Fractions.STUCK;
         }
 
         private void markHanging(Tape tape, int last) {

@@ -4,6 +4,8 @@ import java.util.List;
 /** Programs made by a fixed rule, run by the class and by the oracle, and all answers compared. */
 public final class OracleTest {
     private static final int[] BIG = {1000000000, 999999999, 31623, 31622, 65536, 99999, 500000000, 999983};
+    // 1001 * 999001 is 10 to the 9 and 1, 31250 * 32000 is 10 to the 9.
+    private static final int[] STEEP = {0, 1, -1, 1001, 999001, 31250, -32000, 1000000000, -999999999, 9999};
     private static long seed = 20261118L;
     private static SlopeRunner used = new SlopeRunner();
 
@@ -13,7 +15,10 @@ public final class OracleTest {
     public static void main(String[] args) {
         int[] states = new int[3];
         for (int i = 0; i < 3000; i++) {
-            compareProgram(new Maker().program(), states);
+            compareProgram(new Maker().program(), states, BIG);
+        }
+        for (int i = 0; i < 4000; i++) {
+            compareProgram(steep(), new int[3], STEEP);
         }
         Check.due("there were whole, stuck and long runs", states[0] > 300 && states[1] > 300 && states[2] > 30, true);
         int[] faults = new int[6];
@@ -29,7 +34,7 @@ public final class OracleTest {
         return (int) ((seed >>> 33) % n);
     }
 
-    private static void compareProgram(String text, int[] states) {
+    private static void compareProgram(String text, int[] states, int[] large) {
         Oracle.Parsed parsed;
         try {
             parsed = Oracle.parse(text);
@@ -45,8 +50,9 @@ public final class OracleTest {
         Check.due("numbers", x.has(4), parsed.numbers.size());
         List<Oracle.Frac> inputs = new ArrayList<>();
         for (int i = 0; i < parsed.inputs.size(); i++) {
-            int up = pick(12) == 0 ? BIG[pick(BIG.length)] : pick(13) - 4;
-            int down = pick(3) != 0 ? 1 : pick(12) == 0 ? BIG[pick(BIG.length)] : 1 + pick(6);
+            boolean steep = large == STEEP;
+            int up = steep || pick(12) == 0 ? large[pick(large.length)] : pick(13) - 4;
+            int down = pick(3) != 0 ? 1 : steep || pick(12) == 0 ? Math.max(1, large[pick(large.length)]) : 1 + pick(6);
             x.put(i, up, down);
             inputs.add(Oracle.Frac.of(up, down));
         }
@@ -73,6 +79,21 @@ public final class OracleTest {
             most = Math.max(most, group[i] + 1);
         }
         Check.due("groups", x.groups(), most);
+    }
+
+    /** A few sums whose slopes are near the bounds, or beyond them, though the values are within. */
+    private static String steep() {
+        StringBuilder text = new StringBuilder("input a;input b;input c;var v;");
+        String[] parts = {"a", "b", "c", "v", "1001", "9999", "2", "1", "(a-b)", "abs(a-c)", "min(b,c)", "max(v,a)"};
+        String[] signs = {"+", "-", "*", "*", "/"};
+        for (int i = 0; i < 4; i++) {
+            text.append(pick(2) == 0 ? "set v=" : "give ").append(parts[pick(parts.length)]);
+            for (int j = pick(4); j >= 0; j--) {
+                text.append(signs[pick(signs.length)]).append(parts[pick(parts.length)]);
+            }
+            text.append(";");
+        }
+        return text.append("give v;").toString();
     }
 
     private static void compareSlopes(SlopeRunner x, Oracle.Run run, int r, int i, List<Oracle.Frac> inputs) {

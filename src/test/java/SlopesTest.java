@@ -114,6 +114,16 @@ public final class SlopesTest {
         SlopeRunner y = ran("input a; give 1 / a;", 1, 1001);
         Check.dueSlope(y, 0, 0, -1002001, 1);
         Check.dueTwice(y, 0, 0, 0, 0, 0);
+        // TWICE would be 0, but the third step's slope from a, 9999 to the 3, is none.
+        SlopeRunner w = ran("input a; input b; give a * 9999 * 9999 * 9999; give b * b + a * 9999 * 9999 * 9999;", 1, 9999, 5, 1);
+        Check.dueResult(w, 0, 99980001, 1);
+        Check.dueSlope(w, 0, 0, 0, 0);
+        Check.dueTwice(w, 0, 0, 0, 0, 0);
+        Check.dueTwice(w, 0, 0, 1, 0, 0);
+        Check.dueTwice(w, 0, 1, 0, 0, 0);
+        Check.dueTwice(w, 0, 1, 1, 0, 1);
+        Check.dueTwice(w, 1, 0, 1, 0, 0);
+        Check.dueTwice(w, 1, 1, 1, 2, 1);
         // (p * b) + (a * q) is stuck at p * b, though the sum could be.
         SlopeRunner z = ran("input a; give (a * 9999) * (2 - a * 9999);", 100000, 9999);
         Check.dueForward(z, 0, 0, 0, 0);
