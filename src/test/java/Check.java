@@ -5,15 +5,21 @@ import java.util.Arrays;
 final class Check {
     private static int asked = 0;
     private static int wrong = 0;
+    private static String about = "";
 
     private Check() {
+    }
+
+    /** What the answers from here on are about; it stands ahead of each that is not as due. */
+    static void about(String words) {
+        about = words + ": ";
     }
 
     static void due(String what, long got, long want) {
         asked++;
         if (got != want) {
             wrong++;
-            System.out.println(what + " answered " + got + ", due is " + want);
+            System.out.println(about + what + " answered " + got + ", due is " + want);
         }
     }
 
