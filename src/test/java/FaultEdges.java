@@ -80,7 +80,8 @@ final class FaultEdges {
         Sentences.of("Terms I", "where a number, a NAME is asked, a 5th digit, a 7th letter of what is no OWN WORD at itself");
         Check.dueFault("row r[12345];", 1, 10);
         Check.dueFault("row r[123456789];", 1, 10);
-        String[] heads = {"give ", "give (", "give 1+", "give 1*", "if ", "if [", "if not ", "if 1<", "give abs(", "give min(",
+        String[] heads = {"give ", "give (", "give 1+", "give 1*", "if ", "if [", "if not ", "if 1<", "if 1=1 or ", "if 1=1 and ",
+            "while ", "give abs(", "give min(",
             "give max(1,", "row r[1];give r[", "row r[1];set r[", "var v;set v="};
         for (String head : heads) {
             Check.dueFault(head + "12345", 1, head.length() + 4);
@@ -206,11 +207,24 @@ final class FaultEdges {
         Check.dueFault("give a;input a;", 3, 5);
         Check.dueFault("give a[0];row a[1];", 3, 5);
         Check.dueFault("if [ not a=1 ] {}", 3, 9);
-        // Names of an earlier program are none, good or not.
-        SlopeRunner x = Check.make("input a;give a;");
-        Check.feed(x, "give a;");
-        Check.due("program", x.program(), SlopeRunner.NONE);
-        Check.due("fault", x.fault(0), 3);
+        // With as many names as there can be.
+        String most = "input a;input b;input c;input d;input e;input f;input g;input h;row A[1];row B[1];row C[1];row D[1];"
+                + "var k;var l;var m;var n;var o;var p;var q;var r;var s;var t;var u;var v;";
+        Check.dueFault(most + "give w;", 3, most.length() + 5);
+        Check.dueGood(most + "give v;", 25);
+        // Names of earlier programs are none, good or not.
+        String[] earlier = {"input a;give a;", "input a;?"};
+        for (String text : earlier) {
+            SlopeRunner x = new SlopeRunner();
+            for (int i = 0; i < 3; i++) {
+                Check.feed(x, text);
+                x.program();
+            }
+            Check.feed(x, "give a;");
+            Check.due("program", x.program(), SlopeRunner.NONE);
+            Check.due("fault", x.fault(0), 3);
+            Check.due("place", x.fault(1), 5);
+        }
     }
 
     private static void ninthOpen() {
@@ -236,6 +250,8 @@ final class FaultEdges {
         Check.dueFault(Check.times(7, "if 1=1{") + "if not not 1=1{", 4, 56);
         Check.dueFault(rows + Check.times(8, "if 1=1{") + "set r[", 4, 70);
         Check.dueFault(rows + "set " + Check.times(9, "r["), 4, 30);
+        Check.dueFault("if 1=1 or [[[[[[[[(", 4, 18);
+        Check.dueFault("if 1=1 and [[[[[[[[(", 4, 19);
     }
 
     private static void openAtOnce() {

@@ -19,6 +19,7 @@ final class GrammarEdges {
         onePlaceToSixteen();
         fourRows();
         twelveVars();
+        allAtOnce();
         eightyStatements();
         noBraces();
         perhapsElse();
@@ -28,6 +29,7 @@ final class GrammarEdges {
         namesUnlike();
         numbersOneToFourDigits();
         numbersAreDigits();
+        factsAndTests();
         allFromTheLeftOn();
     }
 
@@ -133,6 +135,38 @@ final class GrammarEdges {
         Check.dueGood(TWELVE_VARS, 12);
         Check.dueFault(TWELVE_VARS + "var w;", 5, 72);
         Check.due("vars", Check.make(TWELVE_VARS).has(2), 12);
+    }
+
+    /** As many inputs, rows of sixteen and vars as there can be: each place holds what is its own. */
+    private static void allAtOnce() {
+        Sentences.of("Terms I", "row NAME [ N ] ; (1 .. 16 PLACES; 4 at most) var NAME ; (12 at most)");
+        String names = EIGHT_INPUTS + FOUR_ROWS.replace("1", "16") + TWELVE_VARS;
+        String[] rows = {"A", "B", "C", "D"};
+        String[] singles = {"a", "h", "k", "l", "u", "v"};
+        for (String row : rows) {
+            for (String single : singles) {
+                SlopeRunner x = Check.make(names + "while " + row + "[15]<16{set " + row + "[o]=o+1;set o=o+1;}set " + single
+                        + "=99;set o=0;while o<16{if " + row + "[o]=o+1{set n=n+1;}set o=o+1;}give n;give " + single
+                        + ";set " + row + "[0]=7;give " + single + ";");
+                for (int i = 0; i < 8; i++) {
+                    x.put(i, 50 + i, 1);
+                }
+                Check.due("run with " + row + " and " + single, x.run(), 0);
+                Check.dueResult(x, 0, 16, 1);
+                Check.dueResult(x, 1, 99, 1);
+                Check.dueResult(x, 2, 99, 1);
+            }
+            SlopeRunner y = Check.make(names + "set " + row + "[0]=5;set " + row + "[15]=6;give A[0]+A[15];give B[0]+B[15];give C[0]+C[15];give D[0]+D[15];"
+                    + "give a+h;give k+v;give " + row + "[16];");
+            y.put(0, 1, 1);
+            y.put(7, 2, 1);
+            Check.due("run with place 16 of " + row, y.run(), 1);
+            for (int r = 0; r < 4; r++) {
+                Check.dueResult(y, r, rows[r].equals(row) ? 11 : 0, 1);
+            }
+            Check.dueResult(y, 4, 3, 1);
+            Check.dueResult(y, 5, 0, 1);
+        }
     }
 
     private static void eightyStatements() {
@@ -273,6 +307,42 @@ final class GrammarEdges {
                 Check.dueFault(text, 1, b == '(' ? 6 : 5);
             }
         }
+    }
+
+    private static void factsAndTests() {
+        Sentences.of("Terms I", "TEST: BOTH { or BOTH }. BOTH: FACT { and FACT }. FACT: not FACT; [ TEST ] ; SUM SIGN SUM, SIGN < or > or = .");
+        boolean[] bits = {false, true};
+        for (boolean a : bits) {
+            for (boolean b : bits) {
+                for (boolean c : bits) {
+                    dueTest("not a=1", !a, a, b, c);
+                    dueTest("not not a=1", a, a, b, c);
+                    dueTest("a=1 or b=1", a || b, a, b, c);
+                    dueTest("a=1 and b=1", a && b, a, b, c);
+                    dueTest("not a=1 and b=1", !a && b, a, b, c);
+                    dueTest("not [a=1 and b=1]", !(a && b), a, b, c);
+                    dueTest("not a=1 or b=1", !a || b, a, b, c);
+                    dueTest("a=1 or b=1 and c=1", a || b && c, a, b, c);
+                    dueTest("[a=1 or b=1] and c=1", (a || b) && c, a, b, c);
+                    dueTest("a=1 and b=1 or c=1", a && b || c, a, b, c);
+                    dueTest("a=1 and [b=1 or not c=1]", a && (b || !c), a, b, c);
+                    dueTest("not [not a=1 or not b=1] and not not c=1", a && b && c, a, b, c);
+                    dueTest("a<b", !a && b, a, b, c);
+                    dueTest("a>b", a && !b, a, b, c);
+                    dueTest("a=b", a == b, a, b, c);
+                }
+            }
+        }
+    }
+
+    private static void dueTest(String test, boolean due, boolean a, boolean b, boolean c) {
+        SlopeRunner x = Check.make("input a;input b;input c;if " + test + "{give 1;}else{give 2;}while " + test + "{give 3;give 1/0;}");
+        x.put(0, a ? 1 : 0, 1);
+        x.put(1, b ? 1 : 0, 1);
+        x.put(2, c ? 1 : 0, 1);
+        Check.due("run with " + test, x.run(), due ? 1 : 0);
+        Check.dueResult(x, 0, due ? 1 : 2, 1);
+        Check.due("results with " + test, x.ran(2), due ? 2 : 1);
     }
 
     private static void allFromTheLeftOn() {

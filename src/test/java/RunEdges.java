@@ -101,6 +101,22 @@ final class RunEdges {
         dueRan(ran("give 1/0;give 7;", STUCK), 0, 4, 0, 0);
         SlopeRunner full = ran("input a;input b;input c;input d;input e;input f;input g;input h;give 1" + Check.times(310, "+1") + ";", WHOLE);
         dueRan(full, 310, 8 + 1 + 311 + 310, 1, 0);
+        fullTape();
+    }
+
+    /** As long a tape as there can be: eight inputs, the most numbers, and all steps but four on it. */
+    private static void fullTape() {
+        SlopeRunner x = ran("input a;input b;input c;input d;input e;input f;input g;input h;while a=a{give a;set a=a"
+                + Check.times(304, "*1") + ";}", LONG, 5, 1);
+        dueRan(x, 1000, 8 + 1 + 304 + 996, 4, 4);
+        Check.dueResult(x, 3, 5, 1);
+        Check.dueSlope(x, 3, 0, 1, 1);
+        Check.due("ways", x.ways(3, 0), 1);
+        SlopeRunner y = ran("input h;var k;set k=0" + Check.times(240, "+1") + ";while k>0{set k=k-1;set h=h+1;}give h*h;", WHOLE, 3, 1);
+        dueRan(y, 240 + 241 + 2 * 240 + 1, 2 + 244 + 240 + 2 * 240 + 1, 1, 1);
+        Check.dueResult(y, 0, 243 * 243, 1);
+        Check.dueSlope(y, 0, 0, 486, 1);
+        Check.dueTwice(y, 0, 0, 0, 2, 1);
     }
 
     private static void stepsFromTheLeftOn() {

@@ -19,6 +19,7 @@ final class TextEdges {
         endNotSoMany();
         endBelow0();
         programTapeGoes();
+        programNothingOfEarlierOnes();
         programHowManyStatements();
         programFaultAllStays();
         programWithoutFault();
@@ -202,6 +203,41 @@ final class TextEdges {
         SlopeRunner y = Check.make("input a; give a;");
         Check.due("program of an empty tape", y.program(), 0);
         Check.due("inputs", y.has(0), 0);
+    }
+
+    /** Whatever was taken or refused ahead of it, a program is as in a new object. */
+    private static void programNothingOfEarlierOnes() {
+        Sentences.of("Promise 4", "The tape (it goes) is the PROGRAM");
+        String[] earlier = {"input k;input l;input m;input n;input o;input p;input q;input r;row A[16];row B[16];row C[16];row D[16];"
+            + "var a;var b;var c;var d;var e;var f;var g;var h;var i;var j;var s;var t;set A[1]=1;give A[1]+2*3;" + Check.times(5, "give 4;"),
+            "give ((((((((", "if not not not not 1=1{if [[[1", "give abcdefg", "row r[12345", "var v;var v;", Check.times(80, "give 1;"),
+            Check.times(81, "give 1;"), "input a;input b;give a*b;while a<b{}", ""};
+        String[] later = {"", "give 1;", "input a;give a+1;give 2*a;if a<5{give a-2;}", "give a;", "give zz;", "?", "give 1;  ?", "give",
+            "give ((((((((1))))))));", "row A[1];give A[1];", "row k[2];set k[1]=5;give k[1];give k[0];"};
+        for (String one : earlier) {
+            for (String other : later) {
+                Twin.dueAlike("\"" + other + "\" behind \"" + one + "\"", x -> {
+                    // Three of them, so that each place where a program is held has had one.
+                    for (int i = 0; i < 3; i++) {
+                        Check.feed(x, one);
+                        x.program();
+                        x.put(1, 3, 4);
+                        x.run();
+                        x.groups();
+                    }
+                    laterProgram(x, other);
+                }, x -> laterProgram(x, other));
+            }
+        }
+    }
+
+    /** What stays when the later one has a fault is not looked at: an empty program stands ahead of it. */
+    private static void laterProgram(SlopeRunner x, String text) {
+        Check.take(x, "");
+        Check.feed(x, text);
+        x.program();
+        x.put(0, 1, 2);
+        x.run();
     }
 
     private static void programHowManyStatements() {

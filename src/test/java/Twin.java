@@ -20,6 +20,11 @@ final class Twin {
         dueAlike(what, before, more, x -> { }, true);
     }
 
+    /** Two ways that must lead to the same. */
+    static void dueAlike(String what, Calls one, Calls other) {
+        dueAlike(what, x -> { }, one, other, true);
+    }
+
     /** Calls that may leave another fault behind, and nothing else. */
     static void dueAlikeButFault(String what, Calls before, Calls one, Calls other) {
         dueAlike(what, before, one, other, false);
