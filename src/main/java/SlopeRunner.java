@@ -1766,6 +1766,7 @@ public final class SlopeRunner {
     private static final class Keepers {
         private static final int MOST_ROUNDS = 100;
         private static final int MOST_KEEPERS = 10;
+        private static final int MORE_THAN_ANY = 1000000;
 
         private final int[][] least = new int[MOST_KEEPERS + 1][MOST_ROUNDS + 1];
         private final int[][] firstAt = new int[MOST_KEEPERS + 1][MOST_ROUNDS + 1];
@@ -1807,7 +1808,7 @@ public final class SlopeRunner {
         }
 
         private void fillOne(int n, int k) {
-            least[k][n] = Integer.MAX_VALUE;
+            least[k][n] = MORE_THAN_ANY;
             for (int m = 1; m < n; m++) {
                 int cost = m + least[k][m] + least[k - 1][n - m];
                 if (cost < least[k][n]) {

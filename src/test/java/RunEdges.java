@@ -358,6 +358,14 @@ final class RunEdges {
             Check.due("run with " + each[0] + "/" + each[1], x.run(), each[2]);
         }
         Check.due("run of a new one", new SlopeRunner().run(), WHOLE);
+        // What a run leaves half worked is not there for the next.
+        SlopeRunner y = Check.make("input a;give 1+(2+(3+(4+(5+6/a))));");
+        for (int i = 0; i < 100; i++) {
+            Check.due("run with 0", y.run(), STUCK);
+        }
+        y.put(0, 2, 1);
+        Check.due("run with 2", y.run(), WHOLE);
+        Check.dueResult(y, 0, 18, 1);
     }
 
     private static void ranStuckAndLongNot() {

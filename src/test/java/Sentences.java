@@ -27,6 +27,7 @@ final class Sentences {
         for (int n = 1; n <= PROMISES; n++) {
             PARTS.put("Promise " + n, between(text, " ## Promise " + n + ": ", " ## "));
         }
+        PARTS.put("What it is", between(text, " ## What it is ", " ## "));
         PARTS.put("The constants", between(text, " The constants: ", " Ahead of the calls "));
     }
 

@@ -9,6 +9,7 @@ final class TextEdges {
     }
 
     static void all() {
+        fiveHundredAndTwelveCalls();
         constants();
         newObjectEmptyProgram();
         newObjectNoRun();
@@ -30,6 +31,19 @@ final class TextEdges {
         hasCounts();
         hasNumbersOfSums();
         hasNoneForOthers();
+    }
+
+    private static void fiveHundredAndTwelveCalls() {
+        Sentences.of("What it is", "An object is used for at most 512 calls after it has been made");
+        SlopeRunner x = new SlopeRunner();
+        // Two calls feed it, so that the 512th is result().
+        x.feed(0x696e7075, 0x7420613b, 0x67697665, 0x20612b31, 0x3b202020);
+        x.program();
+        for (int call = 3; call <= 510; call++) {
+            Check.due("put at call " + call, x.put(0, call, 1), true);
+        }
+        Check.due("run at call 511", x.run(), 0);
+        Check.due("result at call 512", x.result(0, true), 511);
     }
 
     private static void constants() {
