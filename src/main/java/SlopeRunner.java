@@ -169,7 +169,7 @@ public final class SlopeRunner {
             return NO;
         }
         long more = Fractions.of(h, below);
-        long moved = Fractions.plus(latest.value[input], more);
+        long moved = Fractions.plus(latest.valueAt(input), more);
         if (moved == Fractions.STUCK) {
             return NO;
         }
@@ -1253,11 +1253,20 @@ public final class SlopeRunner {
         }
 
         long resultValue(int r) {
-            return hasResult(r) ? value[given[r]] : Fractions.STUCK;
+            return hasResult(r) ? valueAt(given[r]) : Fractions.STUCK;
         }
 
+        int resultAt(int r) {
+            return hasResult(r) ? given[r] : zeroAt();
+        }
+
+        long valueAt(int at) {
+            return holds(at) ? value[at] : Fractions.STUCK;
+        }
+
+        /** Only what is on the tape can be worked with, so left and right are always ahead. */
         int lay(int what, int a, int b, long worth) {
-            if (size >= ROOM) {
+            if (size >= ROOM || !holds(a) || !holds(b)) {
                 return zeroAt();
             }
             kind[size] = what;
@@ -1270,12 +1279,16 @@ public final class SlopeRunner {
         }
 
         boolean giveOut(int at) {
-            if (results >= MOST_RESULTS) {
+            if (results >= MOST_RESULTS || !holds(at)) {
                 return false;
             }
             given[results] = at;
             results++;
             return true;
+        }
+
+        private boolean holds(int at) {
+            return at >= 0 && at < size;
         }
 
         /** Two sides of a test have met: is that an edge, and how near was it? */
@@ -1374,7 +1387,7 @@ public final class SlopeRunner {
         }
 
         private int slotInRow(int row) {
-            long index = tape.value[pop()];
+            long index = tape.valueAt(pop());
             long number = Fractions.above(index);
             if (row < 0 || row >= program.rows || Fractions.below(index) != 1) {
                 return NONE;
@@ -1402,7 +1415,7 @@ public final class SlopeRunner {
         private void reckon(int what) {
             int b = pop();
             int a = pop();
-            long worth = worked(what, tape.value[a], tape.value[b]);
+            long worth = worked(what, tape.valueAt(a), tape.valueAt(b));
             if (worth == Fractions.STUCK) {
                 tape.state = Tape.STUCK;
             } else {
@@ -1425,7 +1438,7 @@ public final class SlopeRunner {
 
         private void dropSign() {
             int a = pop();
-            long x = tape.value[a];
+            long x = tape.valueAt(a);
             tape.meet(x, Fractions.ZERO);
             int kind = Fractions.above(x) < 0 ? Tape.TURNED : Tape.KEPT;
             push(tape.lay(kind, a, a, Fractions.withoutSign(x)));
@@ -1434,18 +1447,18 @@ public final class SlopeRunner {
         private void choose(int what) {
             int b = pop();
             int a = pop();
-            long x = tape.value[a];
-            long y = tape.value[b];
+            long x = tape.valueAt(a);
+            long y = tape.valueAt(b);
             tape.meet(x, y);
             int order = Fractions.compare(x, y);
             boolean second = what == Program.MIN ? order > 0 : order < 0;
             int one = second ? b : a;
-            push(tape.lay(Tape.KEPT, one, one, tape.value[one]));
+            push(tape.lay(Tape.KEPT, one, one, second ? y : x));
         }
 
         private void compare(int what) {
-            long y = tape.value[pop()];
-            long x = tape.value[pop()];
+            long y = tape.valueAt(pop());
+            long x = tape.valueAt(pop());
             tape.meet(x, y);
             tape.steps++;
             int order = Fractions.compare(x, y);
@@ -1504,7 +1517,11 @@ public final class SlopeRunner {
         }
     }
 
-    /** Slopes, movers and ways, worked out from a tape in rows that are kept between calls. */
+    /**
+     * Slopes, movers and ways, worked out from a tape in rows that are kept between calls. The rows
+     * are as long as a tape, and no step goes on the tape but with a left and a right that stand
+     * there ahead of it: so what is a place on the tape is one in each row, too.
+     */
     private static final class Slopes {
         private static final int MOST_WAYS = 1000000000;
 
@@ -1515,14 +1532,14 @@ public final class SlopeRunner {
         private final boolean[] hangs = new boolean[Tape.ROOM];
 
         long slopeForward(Tape tape, int r, int input) {
-            int last = tape.given[r];
+            int last = tape.resultAt(r);
             markHanging(tape, last);
             fillSlopes(tape, last, input, fromOne);
             return fromOne[last];
         }
 
         long slopeTwice(Tape tape, int r, int i, int j) {
-            int last = tape.given[r];
+            int last = tape.resultAt(r);
             markHanging(tape, last);
             fillSlopes(tape, last, i, fromOne);
             fillSlopes(tape, last, j, fromOther);
@@ -1537,7 +1554,7 @@ public final class SlopeRunner {
         }
 
         long slopeBackward(Tape tape, int r, int input) {
-            int last = tape.given[r];
+            int last = tape.resultAt(r);
             long[] share = fromOne;
             for (int k = 0; k <= last; k++) {
                 share[k] = k == last ? Fractions.ONE : Fractions.ZERO;
@@ -1551,7 +1568,7 @@ public final class SlopeRunner {
         }
 
         int moverBits(Tape tape, int r) {
-            int last = tape.given[r];
+            int last = tape.resultAt(r);
             for (int k = 0; k <= last; k++) {
                 if (k < tape.firstStep) {
                     count[k] = k < tape.inputs ? 1 << k : 0;
@@ -1563,7 +1580,7 @@ public final class SlopeRunner {
         }
 
         int countWays(Tape tape, int r, int input) {
-            int last = tape.given[r];
+            int last = tape.resultAt(r);
             for (int k = 0; k <= last; k++) {
                 if (k < tape.firstStep) {
                     count[k] = k == input ? 1 : 0;

@@ -33,7 +33,9 @@ public final class LanguageTest {
     public static void main(String[] args) throws IOException {
         face();
         nestedClasses();
-        words(Files.readString(Path.of("src/main/java/SlopeRunner.java"), StandardCharsets.ISO_8859_1));
+        String source = Files.readString(Path.of("src/main/java/SlopeRunner.java"), StandardCharsets.ISO_8859_1);
+        words(source);
+        places(source);
         Check.finish();
     }
 
@@ -126,5 +128,20 @@ public final class LanguageTest {
             Check.due("the method that ends at line " + line + " is short", end && began > 0 && line - began > 60, false);
             began = end ? 0 : began;
         }
+    }
+
+    /** Rule 7: a place that comes from the stack or from outside is looked at before it is used. */
+    private static void places(String source) {
+        String[] unlooked = {"\\[pop\\(\\)\\]", "tape\\.given\\[", "latest\\.(value|given)\\["};
+        for (String each : unlooked) {
+            Check.due("a place that is not looked at: " + each, Pattern.compile(each).matcher(source).find(), false);
+        }
+        int from = source.indexOf("class Machine ");
+        int to = source.indexOf("class Slopes ");
+        Check.due("Machine stands ahead of Slopes", from >= 0 && to > from, true);
+        String machine = source.substring(Math.max(from, 0), Math.max(to, Math.max(from, 0)));
+        Check.due("Machine asks the tape by valueAt", machine.contains("tape.value["), false);
+        Check.due("lay looks at what a step is worked from", source.contains("!holds(a) || !holds(b)"), true);
+        Check.due("giveOut looks at what is given", source.contains("!holds(at)"), true);
     }
 }
